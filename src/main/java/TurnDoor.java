@@ -1009,10 +1009,12 @@ public final class TurnDoor {
             order.begin(plan, some);
             // 6 people stand in 720 orders at most
             for (int i = 0; i < 720; i++) {
-                order.deal(trial);
-                course.begin(trial, trial.everyone());
-                course.run(order.last, true);
-                order.weigh(course.fates, trial);
+                if (order.isNew()) {
+                    order.deal(trial);
+                    course.begin(trial, trial.everyone());
+                    course.run(order.last, true);
+                    order.weigh(course.fates, trial);
+                }
                 if (!order.next()) {
                     return;
                 }
@@ -1051,6 +1053,16 @@ public final class TurnDoor {
                 place--;
             }
             ticks[place] = tick;
+        }
+
+        /** Two who change places at one tick make no other run, and the row with the lesser number first came before. */
+        private boolean isNew() {
+            for (int i = 1; i < n; i++) {
+                if (ticks[i - 1] == ticks[i] && row[i - 1] > row[i]) {
+                    return false;
+                }
+            }
+            return true;
         }
 
         private void deal(Plan trial) {
