@@ -236,7 +236,8 @@ public final class TurnDoor {
         if (!isIn(tick, TICKS) || !isIn(what, 4)) {
             return BAD;
         }
-        int best = trials.warmestDoor(plan, tick);
+        trials.findDoors(plan);
+        int best = trials.warmestDoor(tick);
         if (best < 0) {
             return NONE;
         }
@@ -507,7 +508,7 @@ public final class TurnDoor {
         private void layOut() {
             for (int i = 0; i < SIDES * SECTORS; i++) {
                 openSets[i] = openParts(leaves, opening, i / SECTORS, i % SECTORS);
-                for (int part = 0; part < leaves && part < PARTS; part++) {
+                for (int part = 0; part < PARTS; part++) {
                     shares[i * PARTS + part] = sectorsInMouth(leaves, part, i / SECTORS, i % SECTORS);
                 }
             }
@@ -919,8 +920,7 @@ public final class TurnDoor {
             return isIn(door, DOORS) ? doorLosses[door] : 0;
         }
 
-        private int warmestDoor(Plan plan, int tick) {
-            findDoors(plan);
+        private int warmestDoor(int tick) {
             int best = -1;
             for (int door = 0; door < DOORS; door++) {
                 if (doorLasts[door] <= tick && (best < 0 || doorLosses[door] < doorLosses[best])) {
@@ -1211,7 +1211,8 @@ public final class TurnDoor {
 
         private boolean readKind() {
             skipBlanks();
-            int kind = byteHere() < 0 ? -1 : LETTERS.indexOf((char) byteHere());
+            int b = byteHere();
+            int kind = b < 0 ? -1 : LETTERS.indexOf((char) b);
             if (kind < 0) {
                 return false;
             }

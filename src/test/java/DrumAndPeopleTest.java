@@ -245,8 +245,10 @@ public final class DrumAndPeopleTest {
             check.due("10 side of " + p, x.told(p, 1), p % 2);
             check.due("10 kind of " + p, x.told(p, 2), p);
         }
+        check.due("10 who waits behind tick 119", x.at(119, 3), 1 << 2 | 1 << 3 | 1 << 5);
         Check.typed(x, "7hc;8sw");
         check.due("10 people come, too", x.people(), 2);
+        check.due("10 who waits now behind tick 7", x.at(7, 3), 1 << 6);
         check.due("10 in all", x.count(0), 8);
         check.due("10 the last", x.told(7, 0), 8);
     }

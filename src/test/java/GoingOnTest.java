@@ -143,6 +143,9 @@ public final class GoingOnTest {
         at(x, 2, 5, 2, 1, 0, 0);
         at(x, 3, 7, 2, 1, 0, 0);
         at(x, 8, 5, 2, 0, 0, 0);
+        x = door("two dazed ones", "0sd;0hd", 5, 1);
+        fate(x, 0, 0, 16, 0, 0);
+        fate(x, 1, 0, 16, 0, 0);
         x = door("dazed from the hall", "0hd", 5, 1);
         fate(x, 0, 0, 16, 0, 0);
         x = door("dazed with three leaves", "0sd", 0, 3, 1, 1, 5, 1);
@@ -270,6 +273,36 @@ public final class GoingOnTest {
         check.due("16 nobody", x.shared(0, 2), -1);
     }
 
+    private static void company() {
+        check.due("16 the first call", Check.withPeople("0sw;0sw").shared(0, 1), 1);
+        check.due("16 no room for both", door("company", "0sw;0sw", 2, 1).shared(0, 1), 0);
+        check.due("16 of two sides", Check.withPeople("0sw;0hw").shared(0, 1), 0);
+        TurnDoor x = door("company of three", "0sw;0sw;0sw;9sw", 2, 3);
+        int[][] pairs = {{0, 1}, {0, 2}, {1, 2}, {1, 0}, {2, 0}, {2, 1}};
+        for (int[] p : pairs) {
+            check.due("16 all three", x.shared(p[0], p[1]), 1);
+        }
+        check.due("16 but not with the fourth", x.shared(0, 3), 0);
+        x.delay(2, 30);
+        check.due("16 not any more", x.shared(0, 2), 0);
+    }
+
+    /** One door through many settings, each compared with a door that never had others. */
+    private static void changedSettings() {
+        TurnDoor x = Check.withPeople("0sw;2hb;4sd;4sc");
+        for (int i = 0; i < 24; i++) {
+            int leaves = 3 + i % 2;
+            int opening = 1 + i / 2 % 3;
+            TurnDoor y = door("changed settings", "0sw;2hb;4sd;4sc", 0, leaves, 1, opening);
+            x.set(0, leaves);
+            x.set(1, opening);
+            for (int p = 0; p < 4; p++) {
+                fate(x, p, y.fate(p, 0), y.fate(p, 1), y.fate(p, 2), y.fate(p, 3));
+            }
+            check.due("14 lost", x.all(3), y.all(3));
+        }
+    }
+
     private static void counts() {
         TurnDoor x = door("counts", "0sw;0hw;3sb;9sd;8hc");
         check.due("15 people", x.count(0), 5);
@@ -292,6 +325,8 @@ public final class GoingOnTest {
         warmth();
         folded();
         refusals();
+        company();
+        changedSettings();
         counts();
         check.end("GoingOnTest");
     }

@@ -14,6 +14,12 @@ public final class SheetsTest {
         check.due("24 an empty row is a row", x.drop(0), 0);
         x.sheet(3, 2, 16);
         check.due("24 all items are 0", x.times(3, 2, 0, 8, 0), 0);
+        for (int i = 0; i < 16; i++) {
+            x.item(3, 2, i, 121);
+        }
+        check.due("24 nobody", x.times(3, 2, 0, 1, 0), TurnDoor.NOT);
+        x.sheet(3, 2, 16);
+        check.due("24 a new row is of 0, too", x.times(3, 2, 0, 8, 0), 0);
         check.due("24 n 17", x.sheet(3, 0, 17), TurnDoor.BAD);
         check.due("24 n far above", x.sheet(3, 0, Integer.MAX_VALUE), TurnDoor.BAD);
         check.due("24 n -1", x.sheet(3, 0, -1), TurnDoor.SIZE);

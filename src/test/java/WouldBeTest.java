@@ -167,7 +167,11 @@ public final class WouldBeTest {
 
     private static void ordersByHand() {
         // the child must come behind the one who walks
-        TurnDoor x = Check.withPeople("0sc;9sw");
+        TurnDoor x = new TurnDoor();
+        check.due("19 nobody came", x.orders(0, -1), TurnDoor.BAD);
+        check.due("19 nobody came", x.orders(1, -1), TurnDoor.BAD);
+        x = Check.withPeople("0sc;9sw");
+        check.due("19 none", x.orders(0, -1), TurnDoor.BAD);
         check.due("19 the walker first", x.orders(3, 0), 1);
         check.due("19 then the child, who waits for one to go with for ever", x.orders(3, 1), 0);
         check.due("19 never all", x.orders(3, -1), 120);
@@ -319,6 +323,7 @@ public final class WouldBeTest {
         x.drop(0);
         x.sheet(1, 2, 7);
         Check.typed(x, "w");
+        check.holds("23 other warmth", x.all(3) != lost);
         check.due("23 restore()", x.restore(), 1);
         check.due("23 people", x.count(0), 2);
         check.due("23 tick", x.told(0, 0), 3);
