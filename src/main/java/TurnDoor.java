@@ -535,9 +535,7 @@ public final class TurnDoor {
             }
         }
 
-        /** Who is in one of the open parts of a side. */
-        private int beforeMouth(int side) {
-            int parts = openSets[side * SECTORS + turn];
+        private int holdersOf(int parts) {
             int those = 0;
             for (int part = 0; part < PARTS && parts >> part != 0; part++) {
                 if ((parts >> part & 1) != 0) {
@@ -628,8 +626,8 @@ public final class TurnDoor {
         private int coming;
         private int children;
         private int dazed;
-        /** Dazed ones whose part has come to their mouth, and those of them whom it has left again. */
-        private int met, past;
+        /** Dazed ones whose part has come to their mouth once. */
+        private int wentBy;
         private int waiting;
         private int push;
         private int speed;
@@ -641,8 +639,7 @@ public final class TurnDoor {
             coming = who;
             drum.begin(given);
             fates.begin();
-            met = 0;
-            past = 0;
+            wentBy = 0;
             waiting = 0;
             push = 0;
             speed = 0;
@@ -735,25 +732,26 @@ public final class TurnDoor {
         }
 
         private void step(int tick) {
-            int wasOpen = drum.openSet(STREET);
+            int street = drum.openSet(STREET);
+            int hall = drum.openSet(HALL);
             drum.stepOn();
-            for (int side = 0; side < SIDES && drum.inside != 0; side++) {
-                endInside(leaversAt(side), tick);
+            if (drum.inside != 0) {
+                letOut(STREET, drum.openSet(STREET) & ~street, tick);
+                letOut(HALL, drum.openSet(HALL) & ~hall, tick);
             }
             // behind those who step out: what they leave empty is lost, too
-            drum.lose(wasOpen & ~drum.openSet(STREET));
+            drum.lose(street & ~drum.openSet(STREET));
         }
 
-        private int leaversAt(int side) {
-            int wanting = drum.inside & ofSide[1 - side];
-            if (wanting == 0) {
-                return 0;
+        /** No part is open at both sides, so they step out as one opens or not at all as long as it is open. */
+        private void letOut(int side, int opened, int tick) {
+            if (opened == 0) {
+                return;
             }
-            int there = wanting & drum.beforeMouth(side);
-            int goOn = there & dazed & ~past;
-            past |= met & wanting & ~there;
-            met |= goOn;
-            return there & ~goOn;
+            int there = drum.holdersOf(opened) & ofSide[1 - side];
+            int goOn = there & dazed & ~wentBy;
+            wentBy |= goOn;
+            endInside(there & ~goOn, tick);
         }
 
         private void endInside(int those, int tick) {
