@@ -4,13 +4,19 @@ import java.nio.charset.StandardCharsets;
 final class Check {
     private int wrong;
     private int asked;
+    private String sentence = "";
+
+    /** The document's sentence that the answers from here on are due by. */
+    void says(String words) {
+        sentence = "\"" + words + "\": ";
+    }
 
     void due(String call, long got, long want) {
         asked++;
         if (got != want) {
             wrong++;
             if (wrong <= 50) {
-                System.out.println(call + " answered " + got + ", due is " + want);
+                System.out.println(sentence + call + " answered " + got + ", due is " + want);
             }
         }
     }
@@ -50,5 +56,26 @@ final class Check {
         typed(door, text);
         door.people();
         return door;
+    }
+
+    /** People by calls of person, so that what is tested does not hang on the tape; settings as what, v, what, v .. */
+    static TurnDoor door(String people, int... settings) {
+        TurnDoor door = new TurnDoor();
+        come(door, people);
+        for (int i = 0; i + 1 < settings.length; i += 2) {
+            door.set(settings[i], settings[i + 1]);
+        }
+        return door;
+    }
+
+    static void come(TurnDoor door, String people) {
+        if (people.isEmpty()) {
+            return;
+        }
+        for (String one : people.split(";")) {
+            int letters = one.length() - 2;
+            door.person(Integer.parseInt(one.substring(0, letters)), "sh".indexOf(one.charAt(letters)),
+                "wbtchd".indexOf(one.charAt(letters + 1)));
+        }
     }
 }
