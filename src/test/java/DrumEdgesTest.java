@@ -349,6 +349,10 @@ public final class DrumEdgesTest {
         reads("00sw", 1);
         reads("119sw", 1);
         reads("0000119sw", 1);
+        reads("sw", -20);
+        reads("h", -20);
+        reads("1sw;hw", -24);
+        reads("1sw; s", -25);
         reads("x1sw", -20);
         reads("-1sw", -20);
         reads("+1sw", -20);
@@ -412,6 +416,30 @@ public final class DrumEdgesTest {
         reads("1sw;2h", -26);
     }
 
+    private static void ends() {
+        check.says("THE TAPE, which is empty then");
+        TurnDoor x = Check.withPeople("11sw;12hb");
+        check.due("both came", x.count(0), 2);
+        Check.typed(x, "13s");
+        check.due("no letter is left from the text before", x.people(), -23);
+        Check.typed(x, "13");
+        check.due("no side is left from the text before", x.people(), -22);
+        Check.typed(x, "1");
+        check.due("no digit, no side is left from the text before", x.people(), -21);
+        Check.typed(x, "13hw");
+        check.due("no second one is left from the text before", x.people(), 1);
+        check.says("the end: how many bytes there are");
+        String blanks = "                                                                                ";
+        reads(blanks, -100);
+        reads(blanks.substring(1) + "1", -100);
+        reads(blanks.substring(2) + "1s", -100);
+        reads(blanks.substring(3) + "1sw", 1);
+        reads(blanks.substring(4) + "1sw;", -100);
+        reads(blanks.substring(3) + "120", -97);
+        reads("1sw" + blanks.substring(3), 1);
+        reads("1sw" + blanks.substring(4) + "x", -99);
+    }
+
     private static void fullCrowd() {
         check.says("FULL: not all have room (none comes)");
         TurnDoor x = Check.door("0sw;0sw;0sw;0sw");
@@ -451,6 +479,7 @@ public final class DrumEdgesTest {
         fullTape();
         texts();
         faults();
+        ends();
         fullCrowd();
         check.end("DrumEdgesTest");
     }

@@ -11,6 +11,7 @@ public final class ModelTest {
     private final TurnDoor door = new TurnDoor();
     private final Model model = new Model();
     private final StringBuilder calls = new StringBuilder();
+    private int made;
 
     private ModelTest(long seed) {
         random = new Random(seed);
@@ -40,6 +41,7 @@ public final class ModelTest {
     }
 
     private void due(String call, int got, int want) {
+        made++;
         calls.append(call).append(" = ").append(want).append('\n');
         int before = check.wrong();
         check.due(call, got, want);
@@ -206,7 +208,8 @@ public final class ModelTest {
         int runs = args.length > 0 ? Integer.parseInt(args[0]) : 600;
         for (int seed = 0; seed < runs && check.wrong() == 0; seed++) {
             ModelTest run = new ModelTest(seed);
-            for (int i = 0; i < 14; i++) {
+            // one step makes less than a hundred calls, and an object is promised 512
+            for (int i = 0; i < 14 && run.made <= 412; i++) {
                 int changes = 1 + run.random.nextInt(4);
                 for (int k = 0; k < changes; k++) {
                     run.change();

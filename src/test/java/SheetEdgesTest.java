@@ -39,6 +39,10 @@ public final class SheetEdgesTest {
         check.due("a child alone is never through", x.times(0, 2, 0, 1, 0), 189);
         x.sheet(0, 2, 2);
         check.due("items are 0 again", x.times(0, 2, 0, 1, 0), 0);
+        x.item(0, 2, 0, 1);
+        check.due("nobody", x.times(0, 2, 0, 1, 0), NOT);
+        x.sheet(0, 2, 2);
+        check.due("the first item, too", x.times(0, 2, 0, 1, 0), 0);
         x.item(0, 2, 1, 120);
         x.sheet(0, 2, 1);
         x.sheet(0, 2, 2);

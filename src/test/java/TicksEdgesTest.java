@@ -261,6 +261,10 @@ public final class TicksEdgesTest {
         // turn 8: the bag is caught, the dazed one stands nine ticks in the open part and stays
         at("open, and it stands", x, 16, 8, 0, 3, 0, 0);
         fate("it stays as long as that", x, 0, 2, 28, 0, 0);
+        x = steady("2sd;2sd;2hd", ROOM, 4);
+        for (int p = 0; p < 3; p++) {
+            fate("three of them", x, p, 2, 19, 0, 0);
+        }
         fate("the others step out at once", steady("2sd;2sw"), 1, 2, 7, 0, 0);
         // opening 3: 18 steps from the street's middle to the hall's, the second time
         fate("just by the last tick", steady("101sd", OPENING, 3), 0, 101, 119, 0, 0);
@@ -299,6 +303,9 @@ public final class TicksEdgesTest {
         check.due("one in room 2", steady("2sw", FOLD, 5).all(3), 2 + 1);
         check.due("one in room 2, a step short of closing", steady("2sw", FOLD, 4).all(3), 2);
         check.due("who goes to the street has left by then", steady("2hw", FOLD, 11).all(3), 4 * 2);
+        // three leaves, opening 1: at turn 3 part 0 closes to the street and is open to the hall, where both step out
+        check.due("what those leave who step out as it closes", steady("0sw;0sw", LEAVES, 3, OPENING, 1, FOLD, 3).all(3), 2);
+        check.due("they are out by then", steady("0sw;0sw", LEAVES, 3, OPENING, 1, FOLD, 3).all(1), 2);
         check.due("between two steps of a tick", door("", FOLD, 2, MOTOR, 4).all(3), 2);
     }
 
@@ -308,6 +315,10 @@ public final class TicksEdgesTest {
         at("a hurried one of a lesser number", standing("0sh;0sw", ROOM, 1), 0, 0, 0, 1, 2, 0);
         at("two hurried ones", standing("0sw;0sh;0sh", ROOM, 2), 0, 0, 0, 6, 1, 0);
         at("of like ones the lesser number", standing("0sw;0sw;0sw", ROOM, 2), 0, 0, 0, 3, 4, 0);
+        // opening 3: the street is open at turn 3 first, in tick 2
+        at("a hurried one who came earlier, of a greater number", steady("1sh;0sh", ROOM, 1, OPENING, 3), 2, 3, 1, 2, 1, 0);
+        at("one who came earlier, of a greater number", steady("1sw;0sw", ROOM, 1, OPENING, 3), 2, 3, 1, 2, 1, 0);
+        at("a hurried one who came later", steady("0sw;2sh", ROOM, 1, OPENING, 3), 2, 3, 1, 2, 1, 0);
         // wheels stand ahead till leaves fold: two a tick tell the line
         TurnDoor x = standing("3st;5sw;4sw;4sw;6sh;5sh;5sh", FOLD, 6, ROOM, 1);
         // 5 and 6 came at 5 in a hurry: 5 steps in at once, 6 waits
@@ -379,6 +390,9 @@ public final class TicksEdgesTest {
         TurnDoor x = steady("2hd;8sc");
         fate("with one of the other side", x, 1, 8, 13, 0, 0);
         check.due("they shared", x.shared(0, 1), 1);
+        // opening 1, turn 7: part 2 has share 2 and nobody inside, part 1 has share 1 and the dazed one
+        x = steady("2hd;6sc", OPENING, 1);
+        within("it takes the part of less share in which one is", x, 6, 0, 3, 0, 0);
     }
 
     private static void folds() {
@@ -557,10 +571,10 @@ public final class TicksEdgesTest {
         check.due("not behind one who stops them", x.shared(0, 1), 0);
         check.due("in the last tick alone", standing("119sw;119sw").shared(0, 1), 1);
         x = standing("0sw;0sw;0sw;0sw;0sw;0sw;0hw;0hw;0hw;0hw;0hw;0hw", ROOM, 6);
-        for (int other = 1; other < 12; other++) {
-            check.due("0 and " + other, x.shared(0, other), other < 6 ? 1 : 0);
-            check.due(other + " and 0", x.shared(other, 0), other < 6 ? 1 : 0);
-            check.due("11 and " + (other - 1), x.shared(11, other - 1), other - 1 < 6 ? 0 : 1);
+        for (int one = 0; one < 12; one++) {
+            for (int other = 0; other < 12; other++) {
+                check.due(one + " and " + other, x.shared(one, other), one == other ? TurnDoor.BAD : one / 6 == other / 6 ? 1 : 0);
+            }
         }
         check.says("shared: BAD: also one");
         int[][] bad = {{0, 0}, {11, 11}, {-1, 0}, {0, -1}, {12, 0}, {0, 12}, {-1, -1}, {12, 12}, {FAR_DOWN, 0}, {0, FAR_UP}};

@@ -6,6 +6,17 @@ public final class WouldBeEdgesTest {
     private static final int LEAVES = 0, OPENING = 1, ROOM = 2, MOTOR = 3, DRAG = 4, GOVERNOR = 5, COLD = 6, FOLD = 8;
     private static final String TWELVE = "0sw;0hw;1sb;2hb;3sh;4hh;5sd;6hd;7sw;8hw;9sw;9sc";
 
+    /** People, and room, drag, motor, cold, a tick and the warmth lost, by which each of the 18 doors is the warmest. */
+    private static final String[] WARMEST_FOR = {
+        "1sh", "6sh", "0sd", "1sh", "1sh", "1sh", "5ht;0ht", "0ht;7sh", "2sb;6hd", "6sh", "9st", "3sw", "7st;5sh",
+        "1ht;7hh", "0ht;7sb;2ht", "3st;8sc", "2sd;7hc", "1sh;2hd;0sd"};
+    private static final int[][] WARMEST = {
+        {1, 6, 16, 1, 6, 30}, {4, 5, 17, 2, 7, 480}, {4, 3, 18, 2, 5, 710}, {1, 6, 16, 1, 7, 29},
+        {1, 6, 16, 1, 4, 59}, {1, 6, 16, 1, 3, 59}, {5, 2, 5, 3, 16, 435}, {4, 2, 1, 3, 15, 21},
+        {6, 1, 1, 2, 13, 390}, {4, 5, 17, 2, 9, 318}, {4, 9, 17, 1, 11, 157}, {4, 2, 5, 3, 4, 957},
+        {3, 7, 15, 3, 16, 339}, {4, 6, 7, 2, 11, 320}, {5, 2, 16, 2, 10, 1116}, {5, 2, 7, 2, 14, 382},
+        {4, 1, 8, 2, 13, 636}, {1, 2, 15, 3, 8, 345}};
+
     private static TurnDoor door(String people, int... settings) {
         return Check.door(people, settings);
     }
@@ -85,6 +96,12 @@ public final class WouldBeEdgesTest {
         warmestOf("0sw;0hw;3sb;9hh", COLD, 0);
         warmestOf("2sd;2hc;2hw;4hb", ROOM, 4, COLD, 9);
         warmestOf(TWELVE, ROOM, 6, MOTOR, 6);
+        for (int i = 0; i < WARMEST.length; i++) {
+            int[] is = WARMEST[i];
+            warmest("each of the 18 doors", door(WARMEST_FOR[i], ROOM, is[0], DRAG, is[1], MOTOR, is[2], COLD, is[3]), is[4],
+                3 + i / 9, 1 + i / 3 % 3, 1 + i % 3, is[5]);
+            warmestOf(WARMEST_FOR[i], ROOM, is[0], DRAG, is[1], MOTOR, is[2], COLD, is[3]);
+        }
         check.says("of like ones the first (3 LEAVES first, then the least OPENING, then the least GOVERNOR)");
         warmest("no warmth at all", door("", COLD, 0), 0, 3, 1, 1, 0);
         warmest("nobody", new TurnDoor(), 0, 3, 1, 1, 60);
@@ -156,7 +173,36 @@ public final class WouldBeEdgesTest {
             }
         }
         orders("four of them", x, 15, last, waits, best);
+        backwards();
         ordersRefused();
+    }
+
+    /** Six whose best row is the last of all 720: every other one is worse, each tried on a door of its own. */
+    private static void backwards() {
+        String[] who = {"sc", "sh", "hc", "sd", "hd", "hb"};
+        int[] ticks = {0, 4, 6, 9, 10, 11};
+        TurnDoor x = door("0sc;11sh;6hc;9sd;4hd;10hb", ROOM, 4);
+        orders("the last row of all", x, 63, 15, 0, 5, 4, 3, 2, 1, 0);
+        int tried = 0;
+        for (int code = 0; code < 46656; code++) {
+            int[] tickOf = new int[6];
+            int seen = 0;
+            for (int i = 0, left = code; i < 6; i++, left /= 6) {
+                seen |= 1 << left % 6;
+                tickOf[left % 6] = ticks[i];
+            }
+            if (seen == 63) {
+                StringBuilder people = new StringBuilder();
+                for (int p = 0; p < 6; p++) {
+                    people.append(p == 0 ? "" : ";").append(tickOf[p]).append(who[p]);
+                }
+                TurnDoor y = door(people.toString(), ROOM, 4);
+                tried++;
+                check.holds(people + " is worse", tickOf[0] == 11 && tickOf[1] == 10 && tickOf[2] == 9 && tickOf[3] == 6 && tickOf[4] == 4
+                    || y.all(1) > 15 || y.all(1) == 15 && y.all(2) > 0);
+            }
+        }
+        check.due("rows", tried, 720);
     }
 
     private static void ordersRefused() {
@@ -352,9 +398,22 @@ public final class WouldBeEdgesTest {
         check.due("a sheet made since is there", x.drop(2), 3);
         check.due("the tape is as it is", x.people(), 1);
         check.due("behind the one that came back", x.told(1, 0), 7);
+        for (int sheet = 0; sheet < 4; sheet++) {
+            x.sheet(sheet, sheet % 3, 4 + sheet);
+        }
+        check.due("image()", x.image(), 1);
+        for (int sheet = 0; sheet < 4; sheet++) {
+            x.item(sheet, sheet % 3, 1, 121);
+        }
+        check.due("restore()", x.restore(), 1);
+        for (int sheet = 0; sheet < 4; sheet++) {
+            check.due("an item is as it was put since", x.times(sheet, sheet % 3, 0, 1, 0), NOT);
+            check.due("all sheets are there", x.drop(sheet), 4 + sheet);
+        }
+        check.due("two", x.clear(), 2);
         check.due("restore()", x.restore(), 1);
         check.due("an empty tape stays empty", x.people(), -20);
-        check.due("one", x.count(0), 1);
+        check.due("two", x.count(0), 2);
     }
 
     public static void main(String[] args) {

@@ -1,5 +1,6 @@
 import java.util.ArrayList;
 import java.util.List;
+import java.util.function.Supplier;
 
 /** Promises 17 to 23: what would be, compared with what is, once it has been set so by calls. */
 public final class WouldBeTest {
@@ -108,10 +109,11 @@ public final class WouldBeTest {
         check.due("18 bad ahead of none", x.warmest(119, 4), TurnDoor.BAD);
     }
 
-    /** Deals by calls of delay, all rows in rising order. */
-    private static int[] bestOrder(TurnDoor y, List<Integer> who, List<Integer> ticks, List<Integer> row, int[] best) {
+    /** Deals by calls of delay, all rows in rising order, each on a door of its own: one is promised 512 calls. */
+    private static int[] bestOrder(Supplier<TurnDoor> doors, List<Integer> who, List<Integer> ticks, List<Integer> row, int[] best) {
         int[] found = best;
         if (row.size() == who.size()) {
+            TurnDoor y = doors.get();
             for (int i = 0; i < row.size(); i++) {
                 y.delay(row.get(i), ticks.get(i));
             }
@@ -130,7 +132,7 @@ public final class WouldBeTest {
         for (int p : who) {
             if (!row.contains(p)) {
                 row.add(p);
-                found = bestOrder(y, who, ticks, row, found);
+                found = bestOrder(doors, who, ticks, row, found);
                 row.remove(row.size() - 1);
             }
         }
@@ -152,7 +154,7 @@ public final class WouldBeTest {
             return;
         }
         ticks.sort(null);
-        int[] best = bestOrder(door(people, settings), who, ticks, new ArrayList<>(), null);
+        int[] best = bestOrder(() -> door(people, settings), who, ticks, new ArrayList<>(), null);
         check.due("19 " + people + " orders(" + some + ", -1)", x.orders(some, -1), best[0]);
         check.due("19 " + people + " orders(" + some + ", -2)", x.orders(some, -2), best[1]);
         for (int i = 0; i < who.size(); i++) {
