@@ -351,6 +351,8 @@ public final class TicksEdgesTest {
             at("a bag, then wheels in room " + room, standing("0sb;0st", ROOM, room), 0, 0, 0,
                 room >= 5 ? 3 : room >= 2 ? 1 : 0, room >= 5 ? 0 : room >= 2 ? 2 : 3, 0);
         }
+        at("three leaves have no fourth part to take more", standing("0sw;0sw;0hw;0hw", LEAVES, 3, ROOM, 1), 0, 0, 0, 5, 10, 0);
+        at("nor with opening 1", standing("0sw;0sw;0sw", LEAVES, 3, ROOM, 2, OPENING, 1), 0, 0, 0, 3, 4, 0);
         // who steps out in a tick leaves its room to who steps in
         TurnDoor x = steady("0sw;4hw", ROOM, 1);
         within("ahead of it", x, 3, 1, 0, 0, 0);
