@@ -21,8 +21,9 @@ public final class ReadmeTest {
     private static final Check check = new Check();
     private static final Pattern HEAD = Pattern.compile("### `(.*)`");
     private static final Pattern ASKED = Pattern.compile("\\s*(door\\.(\\w+)\\(.*\\));\\s+// ([^:]+)(:.*)?");
-    private static final Pattern REFUSAL = Pattern.compile("\\b(BAD|NOT|FULL|NONE|NULL|CAST|INDEX|SIZE)\\b");
-    private static final Pattern QUOTED_REFUSAL = Pattern.compile("`((?:BAD|NOT|FULL|NONE|NULL|CAST|INDEX|SIZE)(?: - \\d+)?|-\\d+)`");
+    private static final String NAMES = "BAD|NOT|FULL|NONE|NULL|CAST|INDEX|SIZE";
+    private static final Pattern REFUSAL = Pattern.compile("\\b(" + NAMES + ")\\b");
+    private static final Pattern QUOTED_REFUSAL = Pattern.compile("`((?:" + NAMES + ")(?: - \\d+)?|-\\d+)`");
 
     /** A line of an example: where it stands, under which call, and what of it is asked and due (null: nothing is). */
     private record Line(int number, String section, String text, String call, String name, String due) {
@@ -102,7 +103,8 @@ public final class ReadmeTest {
         return told;
     }
 
-    private static void examplesAnswer(List<String> page, List<Line> examples) throws IOException, ReflectiveOperationException {
+    private static void examplesAnswer(List<String> page, List<Line> examples)
+            throws IOException, ReflectiveOperationException {
         List<long[]> told = answers(examples);
         Set<Long> lines = new TreeSet<>();
         for (long[] one : told) {
